@@ -602,13 +602,13 @@ public final class LysimeterField {
 
         /** Gives the share that some of a layer's water carries along. */
         void giveShare(int part, int whole, Solutes to) {
-            if (whole <= 0) {
+            if (part <= 0 || whole <= 0) {
                 return;
             }
-            for (int kind = 0; kind < amounts.length; kind++) {
+            for (int kind = 0; kind < amounts.length && kind < to.amounts.length; kind++) {
                 long share = amounts[kind] * part / whole;
-                change(kind, -share);
-                to.change(kind, share);
+                amounts[kind] -= share;
+                to.amounts[kind] += share;
             }
         }
     }
@@ -653,7 +653,7 @@ public final class LysimeterField {
         }
 
         int canReceive() {
-            return frozen ? 0 : room();
+            return frozen ? 0 : capacity - water;
         }
 
         int canFeedRoots() {
@@ -720,12 +720,12 @@ public final class LysimeterField {
         }
 
         /**
-         * Takes over what the water of an hour depends on. Neither the rule nor what is running is taken over,
-         * as a thought knows no watering and nothing runs to it; nor are solutes, which do not steer the water.
+         * Takes over what the water of an hour depends on, but for the scale, which is told to a thought.
+         * Neither the rule nor what is running is taken over, as a thought knows no watering and nothing
+         * runs to it; nor are solutes, which do not steer the water.
          */
         void becomeLike(Column other) {
             standing = other.standing;
-            scale = other.scale;
             mulched = other.mulched;
             for (int i = 0; i < layers.size() && i < other.layers.size(); i++) {
                 layers.get(i).becomeLike(other.layers.get(i));
@@ -780,7 +780,7 @@ public final class LysimeterField {
             long came = standing + takeArrivals(rain);
             if (top != null) {
                 came += takeWatering(top);
-                came -= fillCrack(came);
+                came -= fillCrack(top, came);
                 came -= soakIn(top, came);
             }
             standing = (int) Math.min(came, MOST_STANDING);
@@ -802,12 +802,12 @@ public final class LysimeterField {
             return watering;
         }
 
-        private int fillCrack(long from) {
-            Layer end = crackEnd();
+        private int fillCrack(Layer top, long from) {
+            Layer end = crackEnd(top);
             if (end == null) {
                 return 0;
             }
-            int takes = (int) Math.min(from, crackCanTake());
+            int takes = (int) Math.min(from, crackBetween(top, end));
             end.water += takes;
             return takes;
         }
@@ -819,9 +819,8 @@ public final class LysimeterField {
         }
 
         /** The layer that the crack leads to, or null without a crack. */
-        private Layer crackEnd() {
-            Layer top = topOrNull();
-            if (top == null || top.soil != Soil.CLAY || top.frozen || top.water >= top.field * 8 / 10) {
+        private Layer crackEnd(Layer top) {
+            if (top.soil != Soil.CLAY || top.frozen || top.water >= top.field * 8 / 10) {
                 return null;
             }
             Layer end = top;
@@ -831,13 +830,14 @@ public final class LysimeterField {
             return end;
         }
 
+        private static int crackBetween(Layer top, Layer end) {
+            return Math.min((top.field - top.water) / 4, end.canReceive());
+        }
+
         int crackCanTake() {
             Layer top = topOrNull();
-            Layer end = crackEnd();
-            if (top == null || end == null) {
-                return 0;
-            }
-            return Math.min((top.field - top.water) / 4, end.canReceive());
+            Layer end = top == null ? null : crackEnd(top);
+            return end == null ? 0 : crackBetween(top, end);
         }
 
         private void letWaterSink() {
@@ -869,18 +869,14 @@ public final class LysimeterField {
                 l.water -= part;
                 rest -= part;
             }
-            drinkByOnes(rest, p.reach);
-            p.stress += p.thirst - gets;
-            account.vapour += gets;
-        }
-
-        private void drinkByOnes(int rest, int reach) {
-            for (int n = 0; n < rest; n++) {
-                Layer l = wettest(reach);
+            for (; rest > 0; rest--) {
+                Layer l = wettest(p.reach);
                 if (l != null) {
                     l.water--;
                 }
             }
+            p.stress += p.thirst - gets;
+            account.vapour += gets;
         }
 
         /** The layer in reach that has most for roots, the uppermost of like ones, or null. */

@@ -118,11 +118,18 @@ final class Check {
             return String.valueOf(call.get());
         } catch (IndexOutOfBoundsException | IllegalArgumentException | IllegalStateException
                 | UnsupportedOperationException | NoSuchElementException | ArithmeticException e) {
-            return e.getClass().getSimpleName();
+            return nameOf(e);
         }
     }
 
-    /** Two fields of the same make differ, or not, in what a question answers after a change. */
+    /** Only what the class itself throws counts: the machine may never throw in it. */
+    private static String nameOf(RuntimeException e) {
+        StackTraceElement[] trace = e.getStackTrace();
+        boolean own = trace.length > 0 && trace[0].getClassName().startsWith("LysimeterField");
+        return own ? e.getClass().getSimpleName() : "the machine's " + e;
+    }
+
+    /** A question changes nothing that can be read. */
     static <T> void stays(String what, LysimeterField f, Function<LysimeterField, T> question) {
         String before = everything(f);
         question.apply(f);

@@ -111,6 +111,12 @@ public final class HourTest {
         Check.is("clay gives a tenth, cut", after(1, clay).recharge(0), 0);
         clay.wet(0, 0, 390);
         Check.is("clay gives a tenth", after(1, clay).recharge(0), 1);
+        clay.wet(0, 0, 500);
+        Check.is("full clay gives a tenth", after(1, clay).recharge(0), 1 + 12);
+        LysimeterField sand = Check.field("f s500");
+        sand.wet(0, 0, 1701);
+        sand.scale(0, 199);
+        Check.is("1194.995, cut", after(1, sand).recharge(0), 1194);
     }
 
     private static void promise24Runoff() {
@@ -129,6 +135,14 @@ public final class HourTest {
         down.hours(1);
         Check.is("runs to a later column", down.runoff(0), 10);
         Check.is("which has it in the same hour", down.runoff(1), 20);
+        LysimeterField both = Check.field("n", "n", "n", "n");
+        both.link(0, 2);
+        both.link(1, 2);
+        both.link(2, 1);
+        both.link(3, 1);
+        both.weather(10, 60, 0);
+        Check.is("two run to one", after(1, both).runoff(2), 30);
+        Check.is("two run to an earlier one", after(1, both).runoff(1), 10 + 50 + 60 + 30 + 10 - 50);
         LysimeterField up = Check.field("n", "n");
         up.link(1, 0);
         up.weather(10, 60, 0);
@@ -151,6 +165,13 @@ public final class HourTest {
         drinks("n s100 s100", 2, 1, 99, 100);
         drinks("n s100 s100", 2, 3, 98, 99);
         drinks("n s100 s100 s100", 3, 5, 98, 98, 99);
+        drinks("n s100 s100 c100", 2, 1, 99, 100, 380);
+        LysimeterField last = Check.field("n s100 s100");
+        last.wet(0, 0, 41);
+        last.wet(0, 1, 41);
+        last.plant(0, 2, 1);
+        last.hours(1);
+        Check.waters("the last above wilting", last, 0, 40, 41);
         LysimeterField dry = Check.field("n s100 s100");
         dry.wet(0, 0, 30);
         dry.wet(0, 1, 42);
@@ -217,6 +238,7 @@ public final class HourTest {
             f.wet(0, i, 300);
         }
         f.plant(0, 3, 50);
+        f.plant(0, 2, 10);
         f.manure(0, 1000);
         f.rule(0, 9999, 40);
         f.weather(0, 0, 45);
@@ -225,6 +247,7 @@ public final class HourTest {
         Check.is("the thawed one sinks", f.recharge(0), 100);
         Check.is("watering stands, and goes to the air", f.standing(0), 0);
         Check.is("vapour of roots and air", f.vapour(0), 90);
+        Check.is("no root finds water in frozen ones", f.stress(0, 1), 10);
         f.weather(10, 0, 0);
         f.hours(1);
         Check.is("no nitrate in a frozen layer", f.solute(0, 0, 'n'), 0);
@@ -246,7 +269,9 @@ public final class HourTest {
 
     private static void promise27Frost() {
         LysimeterField f = Check.field("n s50 s50");
-        f.weather(-3, 0, 0);
+        f.weather(-1, 0, 0);
+        Check.is("one degree", after(1, f).frost(0, 0), 1);
+        f.weather(-2, 0, 0);
         Check.is("as many degrees", after(1, f).frost(0, 0), 3);
         f.weather(30, 0, 0);
         Check.is("a layer not frozen loses none", after(2, f).frost(0, 0), 3);
@@ -281,6 +306,10 @@ public final class HourTest {
         freeze(f, 1);
         f.wet(0, 1, 56);
         Check.is("summed up, then cut", f.heave(0), 11);
+        f.wet(0, 1, 55);
+        Check.is("110 by 10", f.heave(0), 11);
+        f.wet(0, 1, 54);
+        Check.is("109 by 10, cut", f.heave(0), 10);
     }
 
     private static void promise29Crack() {

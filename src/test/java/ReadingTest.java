@@ -31,6 +31,8 @@ public final class ReadingTest {
         Check.is("sand at its field, cut", wetted("n s100", 100).tension(0, 0), 725);
         Check.is("at 800", wetted("n c100", 251).tension(0, 0), 800);
         Check.throwsIt("above 800", NoSuchElementException.class, () -> wetted("n c100", 250).tension(0, 0));
+        Check.is("at 800, cut", wetted("n s500", 371).tension(0, 0), 800);
+        Check.throwsIt("at 801", NoSuchElementException.class, () -> wetted("n s500", 370).tension(0, 0));
         Check.throwsIt("dry", NoSuchElementException.class, () -> wetted("n s100", 0).tension(0, 0));
         LysimeterField f = wetted("n s100 l100", 350);
         f.weather(-10, 0, 0);
@@ -96,7 +98,15 @@ public final class ReadingTest {
         Check.is("above the limit", finesOf(1000, 2855, 1), 7);
         Check.is("at the limit", finesOf(1000, 2856, 1), 0);
         Check.is("each hour", finesOf(1000, 100, 3), 21);
+        Check.is("by the nitrate of the hour alone", finesOf(1000, 2854, 2), 7);
+        Check.is("by the water of the hour alone", finesOf(1000, 2000, 2), 14);
+        Check.is("one of nitrate by 125 of water", finesOf(3, 7, 1), 7);
         Check.is("only nitrate", finesOf(0, 0, 3), 0);
+        LysimeterField drop = wetted("f c100", 390);
+        drop.spread(0, 'n', 390);
+        drop.law(999, 5);
+        drop.hours(1);
+        Check.is("one of nitrate by one of water", drop.fines(0), 5);
         LysimeterField thin = Check.field("f s500");
         thin.wet(0, 0, 1750);
         thin.scale(0, 400);
@@ -250,6 +260,12 @@ public final class ReadingTest {
         Check.is("two of three", f.frozenShare(), 2.0f / 3.0f);
         f.hours(1);
         Check.is("all", f.frozenShare(), 1.0f);
+        LysimeterField first = Check.field("n s100 s100 s100", "n l50 l50");
+        first.weather(-7, 0, 0);
+        first.hours(1);
+        Check.is("one of five", first.frozenShare(), 1.0f / 5.0f);
+        first.hours(1);
+        Check.is("three of five", first.frozenShare(), 3.0f / 5.0f);
         Check.throwsIt("no layers", ArithmeticException.class, () -> Check.field("n").frozenShare());
     }
 
@@ -258,6 +274,7 @@ public final class ReadingTest {
         Check.is("mean of three", f.meanWater(), 453.0 / 3.0);
         f.wet(1, 0, 99);
         Check.is("mean of three, not even", f.meanWater(), 452.0 / 3.0);
+        Check.is("mean of two columns", Check.field("n s100", "n l100 c100").meanWater(), 730.0 / 3.0);
         Check.throwsIt("no layers", ArithmeticException.class, () -> Check.field("n").meanWater());
         Check.throwsIt("no columns", ArithmeticException.class, () -> new LysimeterField().meanWater());
     }
@@ -288,6 +305,11 @@ public final class ReadingTest {
         f.manure(1, 100000);
         f.spread(0, 'n', 5000);
         f.spread(0, 't', 77);
+        LysimeterField slow = wetted("f c500", 2500);
+        slow.scale(0, 10);
+        Check.is("true while water sinks for days", slow.isTrue(), true);
+        slow.wet(0, 0, 0);
+        Check.is("true without any water", slow.isTrue(), true);
         for (int i = 0; i < 6; i++) {
             f.weather(25 - i * 10, 50 * i, 5 * i);
             f.hours(5);

@@ -140,6 +140,11 @@ public final class SetUpTest {
         Check.waters("none drinks", f, 0, 100);
         Check.waters("the other column's drinks", f, 1, 90);
         Check.is("plant after harvest", f.plant(0, 1, 1), 1);
+        LysimeterField thirsty = Check.field("f s100");
+        thirsty.wet(0, 0, 350);
+        thirsty.plant(0, 1, 50);
+        thirsty.harvest(0);
+        Check.is("none drinks in a forecast", thirsty.forecast(0, 2, 100), 187);
     }
 
     private static void promise11Stress() {
@@ -193,6 +198,9 @@ public final class SetUpTest {
         Check.waters("most watering", f, 0, 200);
         Check.waters("no rule, no watering", f, 2, 100);
         Check.is("missing with watering", f.missing(), 0);
+        Check.is("watering of nothing", f.rule(0, 300, 0), 9999);
+        f.hours(1);
+        Check.waters("watered by nothing", f, 0, 200);
     }
 
     private static void promise14Spread() {
@@ -219,8 +227,20 @@ public final class SetUpTest {
         Check.is("manure that is left", f.manure(0, 1), 955001);
         Check.is("manure that waits for a layer", f.manure(1, 1), 1000001);
         f.layer(1, 's', 100);
+        Check.is("no layer for nitrate before", f.isTrue(), true);
         f.hours(1);
         Check.is("nitrate of old manure", f.solute(1, 0, 'n'), 45000);
+        Check.is("none at 0 degrees", nitrateOfManureAt(0), 0);
+        Check.is("some at 1 degree, cut", nitrateOfManureAt(1), 1);
+        Check.is("none below 0", nitrateOfManureAt(-1), 0);
+    }
+
+    private static long nitrateOfManureAt(int temperature) {
+        LysimeterField f = Check.field("n s100");
+        f.manure(0, 1999);
+        f.weather(temperature, 0, 0);
+        f.hours(1);
+        return f.solute(0, 0, 'n');
     }
 
     private static void promise16Solute() {
@@ -262,6 +282,12 @@ public final class SetUpTest {
         Check.is("full", eatenAt(45, "n l100", 450), 90);
         Check.is("9 tenths, cut", eatenAt(10, "n s50", 157), 20);
         Check.is("below 9 tenths, cut", eatenAt(10, "n s50", 156), 0);
+        LysimeterField little = Check.field("n l100");
+        little.spread(0, 'n', 111);
+        little.wet(0, 0, 450);
+        little.weather(9, 0, 0);
+        little.hours(1);
+        Check.is("999 by 500, cut", little.eaten(0), 1);
         LysimeterField f = Check.field("n l100 l100");
         f.spread(0, 'n', 1000);
         f.wet(0, 0, 450);
