@@ -1,4 +1,5 @@
 import java.io.IOException;
+import java.lang.reflect.Field;
 import java.lang.reflect.Member;
 import java.lang.reflect.Method;
 import java.lang.reflect.Modifier;
@@ -17,11 +18,18 @@ public final class FaceTest {
     private static final List<String> FORBIDDEN = List.of("->", "::", "try {", "catch (", "finally", "synchronized",
             "assert ", "protected ", "System.", "getMessage", ".equals(", "hashCode", "toString");
     private static final int LONGEST_METHOD = 60;
+    private static final int MOST_PARAMETERS = 7;
+    private static final int MOST_CLASSES = 12;
+    private static final int MOST_FIELDS = 20;
+    private static final List<Class<?>> ENUM_FIELDS = List.of(int.class, long.class, boolean.class, String.class);
+    private static final List<Class<?>> CONSTANTS = List.of(int.class, long.class, boolean.class, char.class,
+            String.class, int[].class, long[].class, byte[].class, char[].class);
 
     public static void main(String[] args) throws IOException {
         List<String> source = Files.readAllLines(Path.of(args[0]));
         faceIsTheDocuments(Files.readAllLines(Path.of("../shared/DOC.md")));
         nothingElseIsOpen();
+        classesKeepTheRules();
         sourceKeepsTheRules(source);
         methodsAreShort(source);
         Check.end("FaceTest");
@@ -60,7 +68,8 @@ public final class FaceTest {
 
     private static void nothingElseIsOpen() {
         Class<LysimeterField> face = LysimeterField.class;
-        Check.is("public and final", Modifier.isPublic(face.getModifiers()) && Modifier.isFinal(face.getModifiers()), true);
+        boolean isFace = Modifier.isPublic(face.getModifiers()) && Modifier.isFinal(face.getModifiers());
+        Check.is("public and final", isFace, true);
         Check.is("constructors", face.getDeclaredConstructors().length, 1);
         Check.is("constructor is public", Modifier.isPublic(face.getDeclaredConstructors()[0].getModifiers()), true);
         for (Member m : face.getDeclaredFields()) {
@@ -72,6 +81,45 @@ public final class FaceTest {
         }
     }
 
+    /** Rules 1, 2, 5 and 11, as far as compiled classes tell of them. */
+    private static void classesKeepTheRules() {
+        Class<?>[] inside = LysimeterField.class.getDeclaredClasses();
+        Check.is("classes are few", inside.length + 1 <= MOST_CLASSES, true);
+        classKeepsTheRules(LysimeterField.class);
+        for (Class<?> c : inside) {
+            int modifiers = c.getModifiers();
+            Check.is(c + " is static", Modifier.isStatic(modifiers) || c.isInterface(), true);
+            Check.is(c + " is not open", Modifier.isPublic(modifiers) || Modifier.isProtected(modifiers), false);
+            Check.is(c + " has no classes inside", c.getDeclaredClasses().length, 0);
+            classKeepsTheRules(c);
+        }
+    }
+
+    private static void classKeepsTheRules(Class<?> c) {
+        TreeSet<String> open = Arrays.stream(LysimeterField.class.getDeclaredMethods())
+                .filter(m -> Modifier.isPublic(m.getModifiers())).map(Method::getName)
+                .collect(Collectors.toCollection(TreeSet::new));
+        for (Method m : c.getDeclaredMethods()) {
+            Check.is("parameters of " + m, m.getParameterCount() <= MOST_PARAMETERS, true);
+            boolean hides = Modifier.isPrivate(m.getModifiers()) && open.contains(m.getName());
+            Check.is(m + " bears the name of a public one", hides, false);
+        }
+        int fields = 0;
+        for (Field f : c.getDeclaredFields()) {
+            boolean isStatic = Modifier.isStatic(f.getModifiers());
+            fields += isStatic ? 0 : 1;
+            if (isStatic && !f.isEnumConstant() && !f.isSynthetic()) {
+                Class<?> of = f.getType();
+                boolean isValues = of.isArray() && of.getComponentType().isEnum();
+                Check.is(f + " is of a constant's type", isValues || CONSTANTS.contains(of), true);
+                Check.is(f + " is final", Modifier.isFinal(f.getModifiers()), true);
+            } else if (!isStatic && c.isEnum()) {
+                Check.is(f + " may stand in an enum", ENUM_FIELDS.contains(f.getType()), true);
+            }
+        }
+        Check.is("fields of " + c + " are few", fields <= MOST_FIELDS, true);
+    }
+
     private static void sourceKeepsTheRules(List<String> source) {
         for (String line : source) {
             if (line.startsWith("import ")) {
@@ -80,7 +128,6 @@ public final class FaceTest {
             for (String sign : FORBIDDEN) {
                 Check.is("no " + sign + " in: " + line, line.contains(sign), false);
             }
-            Check.is("a static field is final: " + line, line.matches(" *private static [\\w\\[\\]]+ \\w+( =.*)?;"), false);
         }
     }
 
